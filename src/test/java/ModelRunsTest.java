@@ -5,12 +5,14 @@ import java.util.List;
 import java.util.Random;
 
 /**
- * Runs of up to 512 calls drawn from fixed seeds. Each answer, and the STATUS and FRACTION behind it,
- * is compared with a model that follows the document's words by trying everything.
+ * Runs of up to 512 calls drawn from fixed seeds. Each answer, and STATUS and FRACTION among them, is
+ * compared with a model that follows the document's words by trying everything.
  */
 public final class ModelRunsTest {
-    private static final int RUNS = 1500;
+    private static final int RUNS = 3000;
+    /** Nothing is promised about an object behind so many, status(), upper() and lower() among them. */
     private static final int CALLS = 512;
+    private static final int CALLS_OF_A_STEP = 4;
     private static final String[] NAMES = {"tray", "write", "read", "pour", "person", "stay", "strike", "there", "let",
         "value", "room", "price", "chore", "mind", "turns", "whose", "burden", "envies", "swap", "take", "paid",
         "balance", "fewest", "plan", "settle", "part", "bill", "points", "hold", "has"};
@@ -27,31 +29,41 @@ public final class ModelRunsTest {
         }
     }
 
+    /** In half of the runs STATUS is looked at now and then alone, so that more can be done in 512 calls. */
     private static void compareRun(int run) {
         Random random = new Random(run);
         Draw draw = new Draw(random, run);
         ChoreHouse house = new ChoreHouse();
         Model model = new Model();
-        for (int call = 0; call < CALLS; call++) {
-            int name = draw.name(call);
+        boolean eachStatus = random.nextBoolean();
+        int calls = 0;
+        for (int step = 0; calls + CALLS_OF_A_STEP <= CALLS; step++) {
+            int name = draw.name(step);
             if (NAMES[name].equals("chore") && draw.enoughChores(model)) {
                 continue;
             }
             long[] a = draw.arguments(name, model);
             long got = callHouse(house, name, a);
             long want = model.call(NAMES[name], a);
-            compare(run, call, name, a, "", got, want);
-            compare(run, call, name, a, "status() behind ", house.status(), model.status);
-            compare(run, call, name, a, "upper() behind ", house.upper(), model.upper);
-            compare(run, call, name, a, "lower() behind ", house.lower(), model.lower);
+            calls++;
+            compare(run, step, name, a, "", got, want);
+            if (eachStatus || random.nextInt(8) == 0) {
+                compare(run, step, name, a, "status() behind ", house.status(), model.status);
+                calls++;
+            }
+            if (NAMES[name].equals("price") || random.nextInt(40) == 0) {
+                compare(run, step, name, a, "upper() behind ", house.upper(), model.upper);
+                compare(run, step, name, a, "lower() behind ", house.lower(), model.lower);
+                calls += 2;
+            }
         }
     }
 
-    private static void compare(int run, int call, int name, long[] a, String ahead, long got, long want) {
+    private static void compare(int run, int step, int name, long[] a, String ahead, long got, long want) {
         if (got != want) {
             wrong++;
             if (wrong <= 20) {
-                System.out.println("run " + run + ", call " + call + ": " + ahead + NAMES[name] + Arrays.toString(a)
+                System.out.println("run " + run + ", step " + step + ": " + ahead + NAMES[name] + Arrays.toString(a)
                     + " answered " + got + ", due is " + want);
             }
         }
@@ -131,8 +143,8 @@ public final class ModelRunsTest {
             likely.add(24);
         }
 
-        int name(int call) {
-            if (call < mostPeople) {
+        int name(int step) {
+            if (step < mostPeople) {
                 return 4;
             }
             int name = likely.get(random.nextInt(likely.size()));

@@ -835,8 +835,9 @@ public final class PromisesTest {
         balances(x, 0, 0, 0);
         gives(x, "fewest() then", x.fewest(), 0);
         refused(x, "plan(0, 0) then", x.plan(0, 0), 9);
+        // Without status() behind each: nothing is promised behind 512 calls.
         for (int k = 0; k < 200; k++) {
-            done(x, "paid then", x.paid(0, 10, 1));
+            is("paid then", x.paid(0, 10, 1) ? 1 : 0, 1);
         }
         refused(x, "paid then, one too many", x.paid(0, 10, 1), 7);
     }
