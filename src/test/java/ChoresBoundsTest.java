@@ -23,6 +23,7 @@ public final class ChoresBoundsTest extends Bounds {
         burdenNumbers();
         enviesGreater();
         enviesMoreThanOne();
+        enviesOfTheirOwn();
         enviesOfNothing();
         enviesNumbers();
         swapNoRing();
@@ -30,6 +31,7 @@ public final class ChoresBoundsTest extends Bounds {
         swapNobodysChores();
         swapFewest();
         swapOfAll();
+        swapSmallerBehindLarger();
         swapFirstOfSeveral();
         swapBeginsWithLeastChore();
         swapThirdChoreDecides();
@@ -312,6 +314,18 @@ public final class ChoresBoundsTest extends Bounds {
         h.gives(1, "envies(0, 1)");
     }
 
+    private static void enviesOfTheirOwn() {
+        promise(22, "without the one of their own that they MIND most");
+        House h = House.of(3, 5);
+        h.takes(0, 0, 1, 2, NONE);
+        // 8 against 3, and 4 against 3: what others have, or nobody, is not left out, however it is MINDED.
+        h.minds(new int[] {4, 4, 3, 1000, 1000}, new int[] {1000, 1000, 1000, 1000, 1000});
+        h.gives(2, "envies(0, 1)");
+        h.gives(0, "envies(0, 2)");
+        h.done("mind(0, 2, 4)");
+        h.gives(1, "envies(0, 1)");
+    }
+
     private static void enviesOfNothing() {
         promise(22, "Whether one ENVIES another one: 0 not, 1 by one CHORE at most, 2 by MORE THAN ONE");
         House h = House.of(2, 3);
@@ -419,6 +433,20 @@ public final class ChoresBoundsTest extends Bounds {
         for (int p = 0; p < 10; p++) {
             h.gives((p + 1) % 10, "whose(" + (14 + p) + ")");
         }
+        h.refuses(9, "swap()");
+    }
+
+    private static void swapSmallerBehindLarger() {
+        promise(23, "A SWAP is done: of how many PEOPLE");
+        House h = House.of(6, 6);
+        h.takes(0, 1, 2, 3, 4, 5);
+        h.done("mind(1, 0, 9)", "mind(2, 1, 9)", "mind(3, 2, 9)", "mind(0, 3, 9)");
+        h.gives(4, "swap()");
+        h.owners(1, 2, 3, 0, 4, 5);
+        // Those of the RING ahead have no part in the next one.
+        h.done("mind(4, 5, 9)", "mind(5, 4, 9)");
+        h.gives(2, "swap()");
+        h.owners(1, 2, 3, 0, 5, 4);
         h.refuses(9, "swap()");
     }
 

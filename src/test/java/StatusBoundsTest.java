@@ -15,6 +15,7 @@ public final class StatusBoundsTest extends Bounds {
         everyStatus();
         noneAndFalse();
         farOffArguments();
+        lastOfMostCalls();
         end(1, 2);
     }
 
@@ -210,6 +211,18 @@ public final class StatusBoundsTest extends Bounds {
                 h.refuses(9, call("plan", 2, far));
             }
         }
+    }
+
+    /** Refused and done by turns, each counted: the two last of 512 calls answer as the first ones did. */
+    private static void lastOfMostCalls() {
+        promise(2, "An object is used for at most 512 calls after it has been made");
+        House h = House.of(10);
+        for (int i = 0; i < 125; i++) {
+            h.gives(1, "points(9, " + i + ")");
+            h.answers(-1, "has(10)");
+            h.answers(2, "status()");
+        }
+        h.gives(124, "has(9)");
     }
 
     private static String call(String name, int arguments, String each) {
