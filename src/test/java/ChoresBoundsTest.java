@@ -423,7 +423,7 @@ public final class ChoresBoundsTest extends Bounds {
     }
 
     private static void swapOfAll() {
-        promise(23, "PEOPLE, each unlike, 2 or more, each giving one CHORE to the next one, the last one to the first");
+        promise(23, "A RING: PEOPLE, each unlike, 2 or more, each giving one CHORE to the next one, the last one to the first");
         House h = House.of(10, 24);
         for (int p = 0; p < 10; p++) {
             h.answers(1, "take(" + (14 + p) + ", " + p + ")");

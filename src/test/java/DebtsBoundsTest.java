@@ -17,6 +17,7 @@ public final class DebtsBoundsTest extends Bounds {
         fewestOfMostHeaps();
         fewestOfOneHeap();
         fewestCancelled();
+        fewestOnlyAsks();
         planNumbers();
         planWhat();
         planOrder();
@@ -87,7 +88,7 @@ public final class DebtsBoundsTest extends Bounds {
     }
 
     private static void paidTooMany() {
-        promise(25, "payments noted, at most 200");
+        promise(25, "DEBTS: payments noted, at most 200");
         House h = House.of(2);
         h.doneTimes(199, "paid(0, 2, 3)");
         h.done("paid(0, 7, 1)");
@@ -223,6 +224,24 @@ public final class DebtsBoundsTest extends Bounds {
         h.done("paid(0, 5, 4)");
         h.gives(0, "fewest()");
         h.refuses(9, "plan(0, 0)");
+    }
+
+    /** Asked again and again it answers the same, of what is noted then, and changes nothing. */
+    private static void fewestOnlyAsks() {
+        promise(27, "FEWEST. ");
+        House h = House.of(4);
+        h.done("paid(0, 9, 14)");
+        h.gives(3, "fewest()", "fewest()");
+        h.each("balance", 9, -3, -3, -3);
+        h.done("paid(1, 3, 1)");
+        h.gives(2, "fewest()", "fewest()");
+        h.each("balance", 6, 0, -3, -3);
+        h.refuses(5, "paid(0, 0, 1)");
+        h.gives(2, "fewest()");
+        h.done("settle()");
+        h.gives(0, "fewest()", "fewest()");
+        h.done("paid(3, 1, 1)");
+        h.gives(1, "fewest()");
     }
 
     private static void planNumbers() {

@@ -9,7 +9,9 @@ import java.util.ArrayList;
 import java.util.Arrays;
 import java.util.Collections;
 import java.util.List;
+import java.util.Map;
 import java.util.Set;
+import java.util.TreeMap;
 import java.util.TreeSet;
 import java.util.regex.Matcher;
 import java.util.regex.Pattern;
@@ -28,6 +30,16 @@ public final class LanguageTest {
     private static final String[] RULED_OUT = {"\\bthrow\\b", "\\btry\\b", "\\bcatch\\b", "\\bsynchronized\\b", "\\bassert\\b",
         "\\bimport\\b", "\\bpackage\\b", "->", "::", "\\bdouble\\b", "\\bfloat\\b", "Exact\\b", "\\bObject\\b", "\"", "\\bstatic \\{"};
 
+    private static final Set<String> LIBRARY = Set.of("Math.min", "Math.max", "Integer.bitCount", "System.arraycopy");
+    private static final Set<String> CASTS = Set.of("int", "long", "short", "byte");
+    private static final Pattern LIBRARY_CALL = Pattern.compile("\\b([A-Z][a-z]\\w*\\.[a-z]\\w*)");
+    private static final Pattern CAST = Pattern.compile("\\((\\w+(?:\\[\\])*)\\) ?[\\w(]");
+    private static final Pattern CALL = Pattern.compile("(?<!new )\\b([a-z]\\w*)\\(");
+    private static final Pattern LOOP = Pattern.compile("for \\(int (\\w+) = [^;]+; \\1(?: \\+ 1)? (?:<|<=|>=) [^;]+; \\1(?:\\+\\+|--)\\) \\{");
+    private static final Pattern HEADER = Pattern.compile(
+        "^( {4}| {8})((?:public |private |static )*)(?:(?:int|long|boolean|void) )?(\\w+)\\(.*\\{$");
+    private static final int DEEPEST = 8;
+
     private static int wrong = 0;
 
     public static void main(String[] args) throws IOException {
@@ -36,6 +48,9 @@ public final class LanguageTest {
         List<String> lines = withoutComments(Files.readAllLines(Path.of(SOURCE)));
         checkWords(lines);
         checkMethods(lines);
+        checkLibrary(lines);
+        checkLoops(lines);
+        checkDepth(callsOfMethods(lines));
         System.out.println(wrong == 0 ? "the face and the language are kept" : wrong + " faults of face or language");
         if (wrong != 0) {
             System.exit(1);
@@ -74,10 +89,26 @@ public final class LanguageTest {
                 fault("rule 1: a constructor more: " + c);
             }
         }
+        if (!ChoreHouse.class.getPackageName().isEmpty()) {
+            fault("the class stands in a package");
+        }
+        checkNone();
         for (Field f : ChoreHouse.class.getDeclaredFields()) {
             if (!Modifier.isPrivate(f.getModifiers()) && !f.getName().equals("NONE")) {
                 fault("rule 1: a field more: " + f);
             }
+        }
+    }
+
+    private static void checkNone() {
+        try {
+            Field none = ChoreHouse.class.getDeclaredField("NONE");
+            boolean isConstant = Modifier.toString(none.getModifiers()).equals("public static final") && none.getType() == int.class;
+            if (!isConstant || none.getInt(null) != -1) {
+                fault("rule 1: NONE is " + none);
+            }
+        } catch (ReflectiveOperationException e) {
+            fault("rule 1: NONE: " + e);
         }
     }
 
@@ -110,6 +141,9 @@ public final class LanguageTest {
     private static void checkFields(Class<?> c) {
         int own = 0;
         for (Field f : c.getDeclaredFields()) {
+            if (!isNumberOrRow(f.getType()) && f.getType().getEnclosingClass() != ChoreHouse.class) {
+                fault("rule 3: " + f);
+            }
             if (Modifier.isStatic(f.getModifiers())) {
                 if (!Modifier.isFinal(f.getModifiers()) || !f.getType().isPrimitive()) {
                     fault("rule 5: " + f);
@@ -121,6 +155,11 @@ public final class LanguageTest {
         if (own > 20) {
             fault("rule 11: too many fields: " + c);
         }
+    }
+
+    /** The rules allow more; the class uses no other ones. */
+    private static boolean isNumberOrRow(Class<?> type) {
+        return Set.of(int.class, long.class, boolean.class, int[].class, long[].class, int[][].class, long[][].class).contains(type);
     }
 
     private static List<String> withoutComments(List<String> lines) {
@@ -155,7 +194,6 @@ public final class LanguageTest {
 
     /** Methods are short, and objects are made by constructors alone, so that calls make none. */
     private static void checkMethods(List<String> lines) {
-        Pattern header = Pattern.compile("^( {4}| {8})((?:public |private |static )*)(?:(?:int|long|boolean|void) )?(\\w+)\\(.*\\{$");
         List<String> classes = new ArrayList<>(Collections.singletonList("ChoreHouse"));
         for (Class<?> c : ChoreHouse.class.getDeclaredClasses()) {
             classes.add(c.getSimpleName());
@@ -165,7 +203,7 @@ public final class LanguageTest {
         String indent = "";
         int found = 0;
         for (int i = 0; i < lines.size(); i++) {
-            Matcher m = header.matcher(lines.get(i));
+            Matcher m = HEADER.matcher(lines.get(i));
             if (method.isEmpty() && m.matches()) {
                 method = m.group(3);
                 indent = m.group(1);
@@ -185,5 +223,83 @@ public final class LanguageTest {
         if (found < FACE.length + classes.size()) {
             fault("only " + found + " methods found in the text");
         }
+    }
+
+    private static void checkLibrary(List<String> lines) {
+        for (int i = 0; i < lines.size(); i++) {
+            Matcher call = LIBRARY_CALL.matcher(lines.get(i));
+            while (call.find()) {
+                if (!LIBRARY.contains(call.group(1))) {
+                    fault("rule 4, line " + (i + 1) + ": " + call.group(1));
+                }
+            }
+            Matcher cast = CAST.matcher(lines.get(i));
+            while (cast.find()) {
+                if (lines.get(i).charAt(Math.max(0, cast.start() - 1)) == ' ' && !CASTS.contains(cast.group(1))) {
+                    fault("rule 6, line " + (i + 1) + ": a cast to " + cast.group(1));
+                }
+            }
+        }
+    }
+
+    /** A counter against a bound, and nothing in the loop sets it back. */
+    private static void checkLoops(List<String> lines) {
+        for (int i = 0; i < lines.size(); i++) {
+            String line = lines.get(i).trim();
+            if (!line.startsWith("for ")) {
+                continue;
+            }
+            Matcher loop = LOOP.matcher(line);
+            if (!loop.matches()) {
+                fault("rule 9, line " + (i + 1) + ": no counter against a bound: " + line);
+                continue;
+            }
+            String indent = lines.get(i).substring(0, lines.get(i).indexOf("for"));
+            Pattern set = Pattern.compile("\\b" + loop.group(1) + "(\\+\\+|--| [-+|&^]?= )");
+            for (int k = i + 1; k < lines.size() && !lines.get(k).equals(indent + "}"); k++) {
+                if (set.matcher(lines.get(k)).find()) {
+                    fault("rule 9, line " + (k + 1) + ": the loop's counter is set: " + lines.get(k).trim());
+                }
+            }
+        }
+    }
+
+    /** By name: methods of like names in two classes count as one that calls what both call. */
+    private static Map<String, Set<String>> callsOfMethods(List<String> lines) {
+        Map<String, Set<String>> calls = new TreeMap<>();
+        String method = "";
+        for (String line : lines) {
+            Matcher header = HEADER.matcher(line);
+            if (header.matches()) {
+                method = header.group(3);
+                calls.computeIfAbsent(method, name -> new TreeSet<>());
+                continue;
+            }
+            Matcher call = CALL.matcher(line);
+            while (call.find()) {
+                calls.computeIfAbsent(method, name -> new TreeSet<>()).add(call.group(1));
+            }
+        }
+        return calls;
+    }
+
+    private static void checkDepth(Map<String, Set<String>> calls) {
+        for (String method : calls.keySet()) {
+            int depth = depthOf(method, calls, 0);
+            if (depth > DEEPEST) {
+                fault("rules 8 and 11: calls go " + depth + " deep, or call themselves, from " + method);
+            }
+        }
+    }
+
+    /** The library's own counts as one more; what calls itself comes to the limit. */
+    private static int depthOf(String method, Map<String, Set<String>> calls, int above) {
+        int deepest = 0;
+        if (above <= DEEPEST) {
+            for (String called : calls.getOrDefault(method, Set.of())) {
+                deepest = Math.max(deepest, depthOf(called, calls, above + 1));
+            }
+        }
+        return deepest + 1;
     }
 }

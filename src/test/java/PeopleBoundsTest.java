@@ -1,6 +1,7 @@
 /** Boundary cases of promises 7 to 10: PEOPLE and their STAYS. */
 public final class PeopleBoundsTest extends Bounds {
     public static void main(String[] args) {
+        personNumbers();
         personTooMany();
         stayPeople();
         stayDays();
@@ -14,6 +15,7 @@ public final class PeopleBoundsTest extends Bounds {
         strikeTwice();
         strikeOrder();
         strikeOneAlone();
+        strikeOrNot();
         thereBothCounted();
         thereFirstAndLastDayOfAll();
         thereToldThenOrAhead();
@@ -25,6 +27,23 @@ public final class PeopleBoundsTest extends Bounds {
         thereDays();
         thereOrder();
         end(7, 10);
+    }
+
+    /** What comes in between changes nothing in the numbers. */
+    private static void personNumbers() {
+        promise(7, "One more: the number (7).");
+        House h = House.empty();
+        h.gives(0, "person()", "chore()", "stay(0, 0, 9, 0)");
+        h.gives(1, "person()", "chore()", "stay(0, 0, 9, 0)", "there(0, 5, 0)");
+        h.done("let(2, 5)", "turns(2, 0)", "paid(0, 4, 3)", "points(1, 9)");
+        h.refuses(2, "has(2)");
+        h.gives(2, "person()");
+        h.done("settle()", "hold(3)");
+        h.gives(3, "person()");
+        for (int p = 4; p < 10; p++) {
+            h.gives(p, "person()");
+        }
+        h.refuses(7, "person()");
     }
 
     private static void personTooMany() {
@@ -167,6 +186,19 @@ public final class PeopleBoundsTest extends Bounds {
         h.done("strike(1, 3)");
         h.gives(1, "there(0, 5, 3)", "there(1, 5, 3)");
         h.gives(0, "there(0, 25, 3)");
+    }
+
+    /** One that isn't STRUCK holds up to the last day that can be known; it can be STRUCK once, whenever. */
+    private static void strikeOrNot() {
+        promise(9, "STRUCK on one or not.");
+        House h = House.of(1);
+        h.gives(0, "stay(0, 0, 9999, 0)");
+        h.gives(1, "there(0, 0, 0)", "there(0, 9999, 0)", "there(0, 0, 9999)", "there(0, 9999, 9999)");
+        h.done("strike(0, 9999)");
+        h.gives(1, "there(0, 0, 9998)");
+        h.gives(0, "there(0, 0, 9999)", "there(0, 9999, 9999)");
+        h.refuses(8, "strike(0, 9999)");
+        h.gives(1, "stay(0, 5, 5, 9999)", "there(0, 5, 9999)");
     }
 
     private static void thereBothCounted() {

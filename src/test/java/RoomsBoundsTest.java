@@ -267,7 +267,8 @@ public final class RoomsBoundsTest extends Bounds {
     }
 
     private static void priceNobodyEnvies() {
-        promise(14, "the VALUE of one's own ROOM less its PRICE is not less than that of any other one less that one's PRICE");
+        promise(14, "with which nobody ENVIES: the VALUE of one's own ROOM less its PRICE is not less than that of any other one"
+            + " less that one's PRICE");
         House h = House.of(2);
         h.done("let(2, 10)");
         // ROOM 1 is worth 4 more than ROOM 0 to its own: at 3 by 7 both are alike to them, and the other one gains.

@@ -13,6 +13,7 @@ public final class StatusBoundsTest extends Bounds {
         latestStatusBehindTrayWork();
         callsWithoutStatus();
         everyStatus();
+        zeroElse();
         noneAndFalse();
         farOffArguments();
         lastOfMostCalls();
@@ -173,6 +174,17 @@ public final class StatusBoundsTest extends Bounds {
         h.refuses(10, "whose(0)");
         h.refuses(11, "pour(0, 0, 1, 0, 1)");
         h.gives(0, "has(9)");
+    }
+
+    /** An answer of 0, of nobody or of nothing done is no refusal. */
+    private static void zeroElse() {
+        promise(2, "0 else.");
+        House h = House.of(2, 1);
+        h.gives(0, "there(0, 0, 0)", "burden(0)", "envies(0, 1)", "balance(0)", "fewest()", "has(0)");
+        h.done("settle()", "take(0, -1)", "tray(0, 0, 0)", "pour(0, 0, 0, 0, 0)", "points(0, 0)", "mind(0, 0, 10)");
+        h.done("let(1, 0)", "value(0, 0, 0)", "price(0)", "settle()", "take(0, 1)", "take(0, 1)", "tray(0, 0, 0)");
+        h.gives(0, "stay(0, 9, 9, 0)", "bill(0, 0, 0, 9, 0)", "bill(1, 100, 0, 9, 0)", "room(0)");
+        h.gives(100, "bill(0, 100, 0, 9, 0)");
     }
 
     /** NONE is an answer as well: the STATUS alone tells them apart. */

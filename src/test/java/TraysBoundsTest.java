@@ -2,6 +2,7 @@
 public final class TraysBoundsTest extends Bounds {
     public static void main(String[] args) {
         trayNumbers();
+        trayMissingAtFirst();
         traySorts();
         trayOfMost();
         trayOfNone();
@@ -13,6 +14,7 @@ public final class TraysBoundsTest extends Bounds {
         writeCutsToThirtyTwoBits();
         writeKeepsSixtyFourBits();
         writePlaces();
+        writeMissing();
         writeOrder();
         readTellsNone();
         readPlaces();
@@ -37,6 +39,19 @@ public final class TraysBoundsTest extends Bounds {
         h.refuses(1, "tray(-1, 0, 1)", "tray(4, 0, 1)", "tray(least, 0, 1)", "tray(most, 0, 1)");
         h.refuses(1, "write(-1, 0, 1)", "write(4, 0, 1)", "read(-1, 0)", "read(4, 0)", "part(-1, 1, 1)", "part(4, 1, 1)");
         h.refuses(1, "pour(-1, 0, 0, 0, 1)", "pour(4, 0, 0, 0, 1)", "pour(0, 0, -1, 0, 1)", "pour(0, 0, 4, 0, 1)");
+    }
+
+    /** One TRAY laid leaves the others MISSING, also one of no numbers is there. */
+    private static void trayMissingAtFirst() {
+        promise(3, "are MISSING at first, or rows of numbers of 8 bits (sort 0)");
+        House h = House.empty();
+        h.refuses(3, "read(0, 0)", "read(1, 0)", "read(2, 0)", "read(3, 0)");
+        h.done("tray(2, 0, 0)");
+        h.refuses(4, "read(2, 0)");
+        h.refuses(3, "read(0, 0)", "read(1, 0)", "read(3, 0)");
+        h.done("tray(0, 0, 1)");
+        h.gives(0, "read(0, 0)");
+        h.refuses(3, "read(1, 0)", "read(3, 0)");
     }
 
     private static void traySorts() {
@@ -134,7 +149,7 @@ public final class TraysBoundsTest extends Bounds {
     }
 
     private static void writeKeepsSixtyFourBits() {
-        promise(4, "64 (3), with sign; what is written is cut to these.");
+        promise(4, "or 64 (3), with sign; what is written is cut to these.");
         cuts(3, Long.MAX_VALUE, Long.MAX_VALUE, Long.MIN_VALUE, Long.MIN_VALUE, 2147483648L, 2147483648L, -2147483649L,
             -2147483649L, -1, -1, 0, 0, 4294967296L, 4294967296L);
     }
@@ -169,6 +184,20 @@ public final class TraysBoundsTest extends Bounds {
         h.refuses(4, "write(0, 40, 9)");
         h.done("tray(0, 2, 0)");
         h.refuses(4, "write(0, 0, 9)", "write(0, -1, 9)");
+    }
+
+    /** A refused tray leaves it MISSING, and what was refused shows in no number later. */
+    private static void writeMissing() {
+        promise(4, "3 the TRAY is MISSING.");
+        House h = House.empty();
+        h.refuses(3, "write(1, 0, 7)");
+        h.refuses(5, "tray(1, 0, 41)");
+        h.refuses(6, "tray(1, 0, -1)");
+        h.refuses(3, "write(1, 0, 7)", "read(1, 0)", "part(1, 1, 1)");
+        h.done("tray(1, 0, 2)");
+        h.row(1, 0, 0);
+        h.done("write(1, 0, 7)");
+        h.row(1, 7, 0);
     }
 
     private static void writeOrder() {

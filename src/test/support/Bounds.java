@@ -45,6 +45,10 @@ abstract class Bounds {
                 fault("there is no test");
             }
         }
+        end();
+    }
+
+    static void end() {
         System.out.println(faults == 0 ? sentences + " sentences hold" : faults + " faults in " + sentences + " sentences");
         if (faults != 0) {
             System.exit(1);

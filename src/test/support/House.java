@@ -144,7 +144,8 @@ final class House {
         is("status() behind plan behind the last", ask("status()"), 9);
     }
 
-    private long ask(String text) {
+    /** The answer alone, for tests that look at several answers together. */
+    long ask(String text) {
         calls++;
         if (calls > MOST_CALLS) {
             throw new IllegalStateException("the test's own fault: more than 512 calls on one object, at " + text);
